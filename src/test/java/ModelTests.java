@@ -370,6 +370,9 @@ public final class ModelTests {
                 default: return "" + h.digest();
             }
         } catch (RuntimeException thrown) {
+            StackTraceElement[] trace = thrown.getStackTrace();
+            // Only a throw statement of the class leaves one of its methods on top.
+            if (trace.length == 0 || !trace[0].getClassName().startsWith("HotelOfBells")) return thrown.toString();
             return thrown.getClass().getSimpleName();
         }
     }

@@ -25,6 +25,12 @@ public final class PromiseTests {
         }
     }
 
+    /** What a throw statement of the class throws has a method of the class on top of its trace. */
+    private static boolean isThrownByHotel(RuntimeException thrown) {
+        StackTraceElement[] trace = thrown.getStackTrace();
+        return trace.length > 0 && trace[0].getClassName().startsWith("HotelOfBells");
+    }
+
     /** The call must throw just this, and leave the hotel as it was. */
     private static void dueThrow(String what, HotelOfBells hotel, String exception, Call call) {
         long before = hotel.digest();
@@ -33,6 +39,7 @@ public final class PromiseTests {
             call.answer();
         } catch (RuntimeException thrown) {
             got = thrown.getClass().getSimpleName();
+            if (!isThrownByHotel(thrown)) got = "what the machine or the library throws, " + got;
         }
         if (!got.equals(exception)) {
             wrong++;
@@ -429,6 +436,19 @@ public final class PromiseTests {
         return h;
     }
 
+    /** A guest in a lift that goes down from floor 1 of three, to a room on floor 0 before its door. */
+    private static HotelOfBells goingDown() {
+        HotelOfBells h = hotel(3, 3, 3);
+        h.setTune(0, 3, 1);
+        h.addLift();
+        h.setDoor(0, 0, 1);
+        h.setDoor(0, 1, 2);
+        h.addGuest(1, 2);
+        h.want(0, 0, 0);
+        h.play(344);
+        return h;
+    }
+
     private static void foresee() {
         promise = "promise 15";
         HotelOfBells h = waiting();
@@ -445,6 +465,8 @@ public final class PromiseTests {
         due("once more", h.foresee(0, 2), 1);
         dueThrow("guest 2", h, BOUNDS, () -> h.foresee(2, 1));
         dueThrow("guest -1", h, BOUNDS, () -> h.foresee(-1, 1));
+        due("the lift goes on down", goingDown().foresee(0, 4), 1);
+        due("the floor turns away, and back", goingDown().foresee(0, 343434), 5);
         dueThrow("guest 2, tune 0", h, BOUNDS, () -> h.foresee(2, 0));
         dueThrow("tune 0", h, ARGUMENT, () -> h.foresee(0, 0));
         dueThrow("tune 1111111", h, ARGUMENT, () -> h.foresee(0, 1111111));
@@ -480,6 +502,7 @@ public final class PromiseTests {
         due("never at the door", g.advise(0, 5), -1);
         g.setTune(0, 3, 1);
         due("any first bell", g.advise(0, 5), 13);
+        due("the lift goes on down", goingDown().advise(0, 5), 1);
         dueThrow("guest 1", g, BOUNDS, () -> g.advise(1, 1));
         dueThrow("guest -1", g, BOUNDS, () -> g.advise(-1, 1));
         dueThrow("guest 1, most 0", g, BOUNDS, () -> g.advise(1, 0));

@@ -15,7 +15,8 @@ public final class HotelOfBells {
     private static final int GREATEST_TUNE = 444444;
     private static final int MOST_ADVICE = 5;
     private static final int NONE = -1;
-    private static final int NO_ROW = Integer.MAX_VALUE;
+    /** Above every row of 5 bells. */
+    private static final int NO_ROW = 100000;
 
     private static final int COUNTS = 8;
     private static final int FLOOR_FACTS = 6;

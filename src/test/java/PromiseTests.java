@@ -58,7 +58,8 @@ public final class PromiseTests {
 
     private static String paper(HotelOfBells hotel) {
         StringBuilder text = new StringBuilder();
-        for (int i = 0; i < hotel.count(7); i++) {
+        int length = hotel.count(7);
+        for (int i = 0; i < length; i++) {
             text.append((char) hotel.byteAt(i));
         }
         return text.toString();
@@ -76,23 +77,25 @@ public final class PromiseTests {
 
     /** What the document says of d, out of the answers of the other calls. */
     private static long digestOf(HotelOfBells hotel) {
+        int[] counts = new int[8];
+        for (int what = 0; what <= 7; what++) counts[what] = hotel.count(what);
         long d = 541;
-        for (int what = 0; what <= 7; what++) d = d * 31 + hotel.count(what);
-        for (int i = 0; i < hotel.count(0); i++) {
+        for (int count : counts) d = d * 31 + count;
+        for (int i = 0; i < counts[0]; i++) {
             for (int what = 0; what <= 5; what++) d = d * 31 + hotel.floor(i, what);
         }
-        for (int i = 0; i < hotel.count(1); i++) {
+        for (int i = 0; i < counts[1]; i++) {
             for (int what = 0; what <= 3; what++) d = d * 31 + hotel.lift(i, what);
-            for (int floor = 0; floor < hotel.count(0); floor++) {
+            for (int floor = 0; floor < counts[0]; floor++) {
                 int door = hotel.setDoor(i, floor, -1);
                 hotel.setDoor(i, floor, door);
                 d = d * 31 + door;
             }
         }
-        for (int i = 0; i < hotel.count(2); i++) {
+        for (int i = 0; i < counts[2]; i++) {
             for (int what = 0; what <= 6; what++) d = d * 31 + hotel.guest(i, what);
         }
-        for (int i = 0; i < hotel.count(7); i++) d = d * 31 + hotel.byteAt(i);
+        for (int i = 0; i < counts[7]; i++) d = d * 31 + hotel.byteAt(i);
         return d;
     }
 

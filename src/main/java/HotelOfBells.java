@@ -232,7 +232,8 @@ public final class HotelOfBells {
         int behind = 0;
         for (int part = span / 10; part > 0; part /= 10) {
             behind++;
-            if (comesHomeIn(dream, toneAt(tune, part))) {
+            strike(dream.moment, toneAt(tune, part));
+            if (act(dream.guest, dream.moment)) {
                 return behind;
             }
         }
@@ -467,37 +468,33 @@ public final class HotelOfBells {
         return remainder(room + moment.turnOf(floor), floors.get(floor).rooms);
     }
 
-    /** Guests don't hinder one another, so a dream needs the one guest alone. */
-    private boolean comesHomeIn(Dream where, int tone) {
-        strike(where.moment, tone);
-        return act(where.guest, where.moment);
-    }
-
     /**
      * The least of all rows that begin with this one, have at most so many bells more and bring the
      * dream's guest home, or the least so far if none is less. No digit is 0, so the fewer bells
      * are always the lesser number.
      */
     private int leastRow(Dream from, int row, int bellsLeft, int leastSoFar) {
-        Dream next = from.deeper;
-        if (next == null || bellsLeft < 1) {
-            return leastSoFar;
-        }
         int least = leastSoFar;
-        for (int tone = 0; tone < TONES; tone++) {
-            int longer = row * 10 + tone + 1;
-            if (longer >= least) {
-                return least;
-            }
-            next.moment.becomeLike(from.moment);
-            next.guest.becomeLike(from.guest);
-            if (comesHomeIn(next, tone)) {
-                least = longer;
-            } else {
-                least = leastRow(next, longer, bellsLeft - 1, least);
-            }
+        for (int tone = 0; tone < TONES && bellsLeft > 0; tone++) {
+            least = leastRowWith(from, row, tone, bellsLeft - 1, least);
         }
         return least;
+    }
+
+    /** The same for the rows that go on with this tone. */
+    private int leastRowWith(Dream from, int row, int tone, int bellsLeft, int leastSoFar) {
+        Dream next = from.deeper;
+        int longer = row * 10 + tone + 1;
+        if (next == null || longer >= leastSoFar) {
+            return leastSoFar;
+        }
+        next.moment.becomeLike(from.moment);
+        next.guest.becomeLike(from.guest);
+        strike(next.moment, tone);
+        if (act(next.guest, next.moment)) {
+            return longer;
+        }
+        return leastRow(next, longer, bellsLeft, leastSoFar);
     }
 
     // ---- guests counted
@@ -755,7 +752,10 @@ public final class HotelOfBells {
         }
     }
 
-    /** What might be behind some bells: made once, as a chain, so that looking ahead makes nothing. */
+    /**
+     * What might be behind some bells: made once, as a chain, so that looking ahead makes nothing.
+     * Guests don't hinder one another, so a dream needs the one guest alone.
+     */
     private static final class Dream {
         final Moment moment = new Moment();
         final Guest guest = new Guest(0, 0);

@@ -120,6 +120,23 @@ public final class FaceTests {
         Matcher thrown = Pattern.compile("throw (?!new (IllegalState|IllegalArgument|IndexOutOfBounds)Exception\\(\"\"\\);)").matcher(code);
         due(!thrown.find(), "throw new E(\"a written text\") alone");
         methodsAreShort(source);
+        callsOfItselfAreStatic(code);
+    }
+
+    /** Rule 8 lets a private static method call itself, and private methods call one another. */
+    private static void callsOfItselfAreStatic(String code) {
+        Pattern header = Pattern.compile(" {4}(?: {4})?(?:(public|private) )?(static )?[\\w<>\\[\\]]+ (\\w+)\\(.*");
+        String name = null;
+        boolean mayCallItself = false;
+        for (String line : code.split("\n")) {
+            Matcher begun = header.matcher(line);
+            if (begun.matches() && !line.endsWith(";") && !line.trim().startsWith("return ")) {
+                name = begun.group(3);
+                mayCallItself = "private".equals(begun.group(1)) && begun.group(2) != null;
+            } else if (name != null && !mayCallItself) {
+                due(!line.matches(".*(?<![.\\w])" + name + "\\(.*"), "private and static, for it calls itself: " + name);
+            }
+        }
     }
 
     /** A method begins at four or eight blanks with a line that opens a block, and ends at as many. */
